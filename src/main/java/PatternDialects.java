@@ -190,7 +190,6 @@ public final class PatternDialects {
         private Expression next;
 
         void reset(int newKind) {
-            set.clear();
             kind = newKind;
             least = 1;
             most = 1;
@@ -220,11 +219,13 @@ public final class PatternDialects {
         private static final int MAX_EXPRESSIONS = 2 * MAX_TEXT + 2;
 
         private final Expression[] pool = new Expression[MAX_EXPRESSIONS];
+        // By depth: what is open in one another, the whole being at 0, with the branch that is being read.
         private final Expression[] choices = new Expression[MAX_GROUPS + 1];
         private final Expression[] branches = new Expression[MAX_GROUPS + 1];
         private final int[] openedAt = new int[MAX_GROUPS + 1];
         private int used;
         private int depth;
+        // What a quantifier may follow here, or null.
         private Expression repeatable;
         private int[] text = new int[0];
         private int length;
@@ -249,7 +250,8 @@ public final class PatternDialects {
             fault = NONE;
             used = 0;
             depth = 0;
-            startChoice();
+            choices[0] = take(Expression.CHOICE);
+            nextBranch();
             for (int step = 0; step < MAX_TEXT && place < length && !failed(); step++) {
                 dialect.readNext(this);
             }
@@ -288,10 +290,11 @@ public final class PatternDialects {
         }
 
         CharSet addSet() {
-            Expression set = take(Expression.SET);
-            branches[depth].addPart(set);
-            repeatable = set;
-            return set.set;
+            Expression added = take(Expression.SET);
+            added.set.clear();
+            branches[depth].addPart(added);
+            repeatable = added;
+            return added.set;
         }
 
         void addCharacter(int c) {
@@ -321,7 +324,8 @@ public final class PatternDialects {
             }
             depth++;
             openedAt[depth] = place;
-            startChoice();
+            choices[depth] = take(Expression.CHOICE);
+            nextBranch();
         }
 
         void nextBranch() {
@@ -339,11 +343,6 @@ public final class PatternDialects {
             depth--;
             branches[depth].addPart(closed);
             repeatable = closed;
-        }
-
-        private void startChoice() {
-            choices[depth] = take(Expression.CHOICE);
-            nextBranch();
         }
 
         private Expression take(int kind) {
@@ -492,7 +491,7 @@ public final class PatternDialects {
         }
     }
 
-    /** LIKE. */
+    /** LIKE, where only its own signs can be escaped. */
     private static final class Like extends Dialect {
         private static final String ESCAPED = "_%\\";
 
@@ -528,7 +527,7 @@ public final class PatternDialects {
         }
     }
 
-    /** REGEX. */
+    /** REGEX; groups are the pattern's open choices, classes in one another are read by recursion. */
     private static final class Regex extends Dialect {
         private static final String ESCAPED = "\\|.?*+(){}[]-^";
         private static final String SET_LETTERS = "dwsDWS";
@@ -668,7 +667,16 @@ public final class PatternDialects {
                 set.turnRound();
             }
             if (!pattern.failed() && pattern.peek() == '-') {
-                readSubtraction(pattern, set, level);
+                if (level >= MAX_CLASSES) {
+                    pattern.fail(pattern.place);
+                    return;
+                }
+                CharSet without = subtracted[level];
+                without.clear();
+                pattern.skip(1);
+                readClass(pattern, without, level + 1);
+                pattern.skip(1);
+                set.removeAll(without);
             }
             if (pattern.peek() != ']') {
                 pattern.fail(pattern.place);
@@ -678,19 +686,6 @@ public final class PatternDialects {
         private static boolean isBehindItems(Pattern pattern) {
             int c = pattern.peek();
             return c == ']' || c == '-' && pattern.ahead(1) == '[';
-        }
-
-        private void readSubtraction(Pattern pattern, CharSet set, int level) {
-            if (level >= MAX_CLASSES) {
-                pattern.fail(pattern.place);
-                return;
-            }
-            CharSet without = subtracted[level];
-            without.clear();
-            pattern.skip(1);
-            readClass(pattern, without, level + 1);
-            pattern.skip(1);
-            set.removeAll(without);
         }
 
         private void readItem(Pattern pattern, CharSet set) {
@@ -741,7 +736,9 @@ public final class PatternDialects {
         private static final int ROWS = 2 * (2 * (MAX_GROUPS + 1) + 1);
 
         private final long[] follow = new long[MAX_POSITIONS];
+        // For each character the positions with it in their sets.
         private final long[] holders = new long[CHARACTERS];
+        // A row is what is known of an expression that is being laid out; its parts are in the rows behind it.
         private final long[] first = new long[ROWS];
         private final long[] last = new long[ROWS];
         private final boolean[] empty = new boolean[ROWS];

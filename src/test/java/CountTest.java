@@ -59,6 +59,8 @@ public final class CountTest {
         dueCounts(check, Check.PATH, "{a,b}", 2, 4, 3);
         dueCounts(check, Check.PATH, "{a,a}", 2, 3, 3);
         dueCounts(check, Check.LIKE, "%_", 2, 2, 2);
+        dueCounts(check, Check.REGEX, "x\\s", 2, 4, 4);
+        dueCounts(check, Check.REGEX, "x~", 2, 4, 4);
         dueCounts(check, Check.REGEX, "a+", 2, 4, 3);
         dueCounts(check, Check.REGEX, "a*", 1, 3, 2);
         dueCounts(check, Check.REGEX, "a?", 1, 3, 3);

@@ -101,6 +101,8 @@ public final class RegexTest {
         check.dueSet(REGEX, "[a-d-[^b]]", "b");
         check.dueSet(REGEX, "[^a-[^b]]", "b");
         check.dueSet(REGEX, "[a-e-[b-d-[^c]]]", "abde");
+        check.dueMatches(REGEX, "[abc-[a]][abc-[b]][a-c-[b-c-[c]]][a-c-[a-c-[b]]]", true, "bacb", "ccab");
+        check.dueMatches(REGEX, "[abc-[a]][abc-[b]]", false, "aa", "bb", "ab");
     }
 
     private static void errors(Check check) {
