@@ -1,4 +1,4 @@
-/** Counts the calls whose answer is not the one that is due, and prints them. */
+/** Counts the calls whose answer is not the one that is due, and prints them under the sentence that they belong to. */
 final class Check {
     static final int GLOB = 0;
     static final int PATH = 1;
@@ -6,6 +6,9 @@ final class Check {
     static final int REGEX = 3;
 
     private final String title;
+    private String sentence = "";
+    private int sentences;
+    private int callsOfSentence;
     private int calls;
     private int wrong;
 
@@ -13,29 +16,51 @@ final class Check {
         this.title = title;
     }
 
-    void due(String call, long got, long want) {
-        calls++;
-        if (got != want) {
+    /** Begins the test of one sentence of the document; one that asks nothing is a fault of the test. */
+    void sentence(String words) {
+        endSentence();
+        sentence = words;
+        sentences++;
+        callsOfSentence = 0;
+    }
+
+    private String heading() {
+        return sentences == 0 ? title : title + ", \"" + sentence + "\"";
+    }
+
+    private void endSentence() {
+        if (sentences > 0 && callsOfSentence == 0) {
             wrong++;
-            System.out.println(title + ": " + call + " answered " + got + ", due is " + want);
+            System.out.println(heading() + ": nothing was asked");
         }
     }
 
+    void due(String call, long got, long want) {
+        dueAnswer(call, String.valueOf(got), String.valueOf(want));
+    }
+
     void due(String call, boolean got, boolean want) {
-        due(call, got ? 1 : 0, want ? 1 : 0);
+        dueAnswer(call, String.valueOf(got), String.valueOf(want));
     }
 
     void due(String call, String got, String want) {
+        dueAnswer(call, "'" + got + "'", "'" + want + "'");
+    }
+
+    private void dueAnswer(String call, String got, String want) {
         calls++;
+        callsOfSentence++;
         if (!got.equals(want)) {
             wrong++;
-            System.out.println(title + ": " + call + " answered '" + got + "', due is '" + want + "'");
+            System.out.println(heading() + ": " + call + " answered " + got + ", due is " + want);
         }
     }
 
     /** Ends the test's program, with exit code 1 if an answer was wrong. */
     void end() {
-        System.out.println(title + ": " + calls + " answers, " + wrong + " not as due");
+        endSentence();
+        String tested = sentences == 0 ? "" : sentences + " sentences, ";
+        System.out.println(title + ": " + tested + calls + " answers, " + wrong + " not as due");
         if (wrong != 0 || calls == 0) {
             System.exit(1);
         }
@@ -63,6 +88,37 @@ final class Check {
         return x.compile(slot, dialect);
     }
 
+    /** A new object with a pattern's machine in slot 0. */
+    static PatternDialects machineOf(int dialect, String pattern) {
+        PatternDialects x = new PatternDialects();
+        if (compile(x, 0, dialect, pattern) < 1) {
+            throw new IllegalStateException("can not be compiled: " + pattern);
+        }
+        return x;
+    }
+
+    /** A new object with the machines of two patterns of REGEX in slots 0 and 1, and the other pattern as its text. */
+    static PatternDialects machinesOf(String pattern, String other) {
+        PatternDialects x = machineOf(REGEX, pattern);
+        if (compile(x, 1, REGEX, other) < 1) {
+            throw new IllegalStateException("can not be compiled: " + other);
+        }
+        return x;
+    }
+
+    /** All that can be asked of an object without changing it, as one text. */
+    static String everythingOf(PatternDialects x) {
+        StringBuilder all = new StringBuilder(textOf(x));
+        for (int slot = 0; slot < 4; slot++) {
+            all.append(" ; ").append(x.matches(slot)).append(' ').append(x.positions(slot));
+            all.append(' ').append(x.states(slot)).append(' ').append(x.kinds(slot));
+            for (int n = 0; n < 4; n++) {
+                all.append(' ').append(x.words(slot, n)).append(' ').append(x.within(slot, n));
+            }
+        }
+        return all.toString();
+    }
+
     /** That the pattern has an error, and where. */
     void dueError(int dialect, String pattern, int place) {
         due("error of " + pattern, compile(new PatternDialects(), 0, dialect, pattern), -1 - place);
@@ -71,7 +127,7 @@ final class Check {
     /** That a pattern of one set has just these characters. */
     void dueSet(int dialect, String pattern, String characters) {
         PatternDialects x = new PatternDialects();
-        due("compile " + pattern, compile(x, 0, dialect, pattern) > 0, true);
+        due("compile of " + pattern, compile(x, 0, dialect, pattern) > 0, true);
         due("positions of " + pattern, x.positions(0), 1);
         StringBuilder taken = new StringBuilder();
         for (int c = 32; c <= 126; c++) {
@@ -87,7 +143,7 @@ final class Check {
     /** That a pattern takes the texts, or that it does not. */
     void dueMatches(int dialect, String pattern, boolean want, String... texts) {
         PatternDialects x = new PatternDialects();
-        due("compile " + pattern, compile(x, 0, dialect, pattern) > 0, true);
+        due("compile of " + pattern, compile(x, 0, dialect, pattern) > 0, true);
         for (String text : texts) {
             write(x, text);
             due(pattern + " takes " + text, x.matches(0), want ? 1 : 0);
@@ -98,6 +154,19 @@ final class Check {
         PatternDialects x = new PatternDialects();
         compile(x, 0, dialect, pattern);
         due("positions of " + pattern, x.positions(0), want);
+    }
+
+    void dueStates(int dialect, String pattern, int want) {
+        PatternDialects x = new PatternDialects();
+        due("compile of " + pattern, compile(x, 0, dialect, pattern), want);
+        due("states of " + pattern, x.states(0), want);
+    }
+
+    void dueKinds(int dialect, String pattern, int want) {
+        PatternDialects x = new PatternDialects();
+        compile(x, 0, dialect, pattern);
+        due("kinds of " + pattern, x.kinds(0), want);
+        due("kinds of " + pattern + ", asked again", x.kinds(0), want);
     }
 
     /** All characters but some. */

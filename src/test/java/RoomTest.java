@@ -21,7 +21,7 @@ public final class RoomTest {
     }
 
     private static void run(PatternDialects x) {
-        for (int round = 0; round < 12; round++) {
+        for (int round = 0; round < 2; round++) {
             for (int k = 0; k < PATTERNS.length; k++) {
                 Check.write(x, PATTERNS[k]);
                 x.compile(k % 4, Check.REGEX);
