@@ -61,6 +61,9 @@ public final class Promise06ClassTest {
         check.dueSet(REGEX, "[\\W]", Check.allBut(WORD_CHARACTERS));
         check.dueSet(REGEX, "[\\S]", Check.allBut(" "));
         check.dueSet(REGEX, "[\\dab]", DIGITS + "ab");
+        check.dueSet(REGEX, "[ab\\d]", DIGITS + "ab");
+        check.dueSet(REGEX, "[!~\\s]", " !~");
+        check.dueSet(REGEX, "[x\\W_]", Check.allBut(WORD_CHARACTERS.replaceAll("[x_]", "")));
         check.dueSet(REGEX, "[\\d\\s]", " " + DIGITS);
         check.dueSet(REGEX, "[^\\s]", Check.allBut(" "));
     }

@@ -7,6 +7,7 @@ public final class Promise06CompileTest {
     public static void main(String[] args) {
         Check check = new Check("Promise06CompileTest");
         becomesTheMachineOfASlot(check);
+        theMachineBeforeIsGone(check);
         theTextStays(check);
         answersHowManyStates(check);
         badSlot(check);
@@ -41,6 +42,29 @@ public final class Promise06CompileTest {
         for (int dialect = 0; dialect < 4; dialect++) {
             check.due("compile(2, " + dialect + ")", x.compile(2, dialect), 3);
             check.due("words(2, 1)", x.words(2, 1), words[dialect]);
+        }
+    }
+
+    private static void theMachineBeforeIsGone(Check check) {
+        check.sentence("becomes the machine of a slot: of the one before nothing stays");
+        String[] patterns = {"", "a", ".*", "[a-c]*b|d{3}", "\\w{2}[^\\d]?", "(ab|c{2,3}d)*e+", "[a-[a]]", SIXTY_STATES};
+        for (String before : patterns) {
+            for (String pattern : patterns) {
+                PatternDialects x = new PatternDialects();
+                Check.write(x, before);
+                // Once more than there are slots, so that what is made aside is used too.
+                for (int k = 0; k < 5; k++) {
+                    x.compile(k % 4, Check.REGEX);
+                }
+                Check.compile(x, 2, Check.REGEX, pattern);
+                PatternDialects y = Check.machineOf(Check.REGEX, pattern);
+                check.due("states of " + pattern, x.states(2), y.states(0));
+                check.due("kinds of " + pattern, x.kinds(2), y.kinds(0));
+                check.due("matches of " + pattern, x.matches(2), y.matches(0));
+                for (int n = 0; n < 6; n++) {
+                    check.due("words of " + pattern, x.words(2, n), y.words(0, n));
+                }
+            }
         }
     }
 

@@ -17,6 +17,7 @@ public final class Promise12WitnessTest {
         emptySlot(check);
         failuresChangeNothing(check);
         theTextAlone(check);
+        oneBehindTheOther(check);
         acrossDialects(check);
         check.end();
     }
@@ -149,6 +150,25 @@ public final class Promise12WitnessTest {
         check.due("states(1)", x.states(1), 4);
         check.due("witness(0, 1), again", x.witness(0, 1), 9);
         check.due("the text", Check.textOf(x), "ccccccccc");
+    }
+
+    private static void oneBehindTheOther(Check check) {
+        check.sentence("The text becomes the least of the shortest words: whatever was asked before");
+        String[] patterns = {"z|y|[a-c]{2}", "[x-z]", "(a|b)*abb", "~|[ -b]*"};
+        PatternDialects x = new PatternDialects();
+        for (int slot = 0; slot < 4; slot++) {
+            Check.compile(x, slot, Check.REGEX, patterns[slot]);
+        }
+        String[][] words = {{null, "aa", "y", "y"}, {"x", null, "x", "x"}, {"abb", "abb", null, null}, {"", "", "", null}};
+        for (int one = 0; one < 4; one++) {
+            for (int other = 0; other < 4; other++) {
+                String word = words[one][other];
+                Check.write(x, "kept");
+                String call = "witness of " + patterns[one] + " and " + patterns[other];
+                check.due(call, x.witness(one, other), word == null ? PatternDialects.NONE : word.length());
+                check.due("the text of " + call, Check.textOf(x), word == null ? "kept" : word);
+            }
+        }
     }
 
     private static void acrossDialects(Check check) {
