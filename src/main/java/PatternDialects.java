@@ -346,8 +346,9 @@ public final class PatternDialects {
         }
 
         private Expression take(int kind) {
-            Expression taken = used < MAX_EXPRESSIONS ? pool[used] : new Expression();
-            used++;
+            Expression taken = pool[used];
+            // The last one would be taken again rather than one that is not there; no text comes so far.
+            used = Math.min(used + 1, MAX_EXPRESSIONS - 1);
             taken.reset(kind);
             return taken;
         }
